@@ -42,7 +42,6 @@ public final class TelexReceiver {
     private final Line line = new Line();
     private final Dictionary dictionary = new Dictionary();
     private final Printer printer = new Printer();
-    private final Forecast forecast = new Forecast();
     private final History history = new History();
 
     public TelexReceiver() {
@@ -273,13 +272,34 @@ public final class TelexReceiver {
         if (code != TO_FIGURES && code != TO_LETTERS) {
             throw new IllegalArgumentException("the code is no shift");
         }
-        forecast.prepare(line, dictionary);
-        return forecast.doubtfulAfter(number, code);
+        return doubtful() + changeByCut(number);
     }
 
     public int bestRepair() {
-        forecast.prepare(line, dictionary);
-        return forecast.findBest(doubtful());
+        int best = NONE;
+        int bestChange = 0;
+        for (int number = 0; number <= received(); number++) {
+            int change = changeByCut(number);
+            if (change < bestChange) {
+                bestChange = change;
+                // Both shifts would do the same, and the code 30 has the lesser result.
+                best = 2 * number;
+            }
+        }
+        return best;
+    }
+
+    // Whether a segment is doubtful does not depend on the shift, as both readings are looked at. So
+    // one more shift changes the number of doubtful segments only if it cuts a segment in two.
+    private int changeByCut(int number) {
+        Row codes = line.receivedRow;
+        int start = Codes.startOfSigns(codes, number);
+        int end = Codes.endOfSigns(codes, number);
+        if (start == number || end == number) {
+            return 0;
+        }
+        return dictionary.doubtOf(codes, start, number) + dictionary.doubtOf(codes, number, end)
+                - dictionary.doubtOf(codes, start, end);
     }
 
     // ---- undo
@@ -490,6 +510,26 @@ public final class TelexReceiver {
             return shift == LETTERS ? 'a' + place : FIGURE_CHARACTERS.charAt(place);
         }
 
+        /** Where the signs begin that stand without a gap before a place; the place itself if none do. */
+        static int startOfSigns(Row codes, int place) {
+            for (int at = place; at > 0; at--) {
+                if (!isSign(codes.at(at - 1))) {
+                    return at;
+                }
+            }
+            return 0;
+        }
+
+        /** Where the signs end that stand without a gap behind a place; the place itself if none do. */
+        static int endOfSigns(Row codes, int place) {
+            for (int at = place; at < codes.size(); at++) {
+                if (!isSign(codes.at(at))) {
+                    return at;
+                }
+            }
+            return codes.size();
+        }
+
         static int shiftBehind(int code, int shift, boolean unshifts) {
             if (code == TO_FIGURES) {
                 return FIGURES;
@@ -619,15 +659,17 @@ public final class TelexReceiver {
             return length;
         }
 
+        private boolean isPlausible(Row codes, int start, int end, int shift) {
+            return shift == LETTERS ? findSegment(codes, start, end) != NONE : areDigits(codes, start, end);
+        }
+
         /** The kind, as segmentKind() tells it, of a segment that begins in a shift. */
         int kindOf(Row codes, int start, int end, int shift) {
-            boolean isWord = findSegment(codes, start, end) != NONE;
-            boolean isNumber = areDigits(codes, start, end);
-            if (shift == LETTERS ? isWord : isNumber) {
+            if (isPlausible(codes, start, end, shift)) {
                 return shift;
             }
             int other = shift == LETTERS ? FIGURES : LETTERS;
-            if (other == LETTERS ? isWord : isNumber) {
+            if (isPlausible(codes, start, end, other)) {
                 return other + GUESSED;
             }
             return shift + DOUBTFUL;
@@ -638,8 +680,9 @@ public final class TelexReceiver {
             return kind & 1;
         }
 
-        static int doubtOfKind(int kind) {
-            return kind >= DOUBTFUL ? 1 : 0;
+        /** 1 for a segment that is doubtful, whatever the shift; 0 for another one. */
+        int doubtOf(Row codes, int start, int end) {
+            return kindOf(codes, start, end, LETTERS) >= DOUBTFUL ? 1 : 0;
         }
     }
 
@@ -703,89 +746,6 @@ public final class TelexReceiver {
                 printedRow.add(character);
             }
             shift = Codes.shiftBehind(code, shift, unshifts);
-        }
-    }
-
-    /**
-     * How many segments would be doubtful with one more shift. Such a shift cuts the codes in two
-     * parts that do not depend on each other, so each part is counted once for each place.
-     */
-    private static final class Forecast {
-        private final Row before = new Row(MOST_CODES + 1);
-        private final Row behindLetters = new Row(MOST_CODES + 1);
-        private final Row behindFigures = new Row(MOST_CODES + 1);
-
-        void prepare(Line line, Dictionary dictionary) {
-            int places = line.receivedRow.size() + 1;
-            before.fill(places, 0);
-            behindLetters.fill(places, 0);
-            behindFigures.fill(places, 0);
-            countBefore(line, dictionary);
-            countBehind(line, dictionary);
-        }
-
-        int doubtfulAfter(int number, int code) {
-            int shift = Codes.shiftBehind(code, LETTERS, false);
-            return before.at(number) + behind(shift).at(number);
-        }
-
-        int findBest(int present) {
-            int best = NONE;
-            int fewest = present;
-            for (int number = 0; number < before.size(); number++) {
-                for (int code = TO_FIGURES; code <= TO_LETTERS; code++) {
-                    int predicted = doubtfulAfter(number, code);
-                    if (predicted < fewest) {
-                        fewest = predicted;
-                        best = 2 * number + code - TO_FIGURES;
-                    }
-                }
-            }
-            return best;
-        }
-
-        private Row behind(int shift) {
-            return shift == LETTERS ? behindLetters : behindFigures;
-        }
-
-        private void countBefore(Line line, Dictionary dictionary) {
-            Row codes = line.receivedRow;
-            int shift = LETTERS;
-            int closed = 0;
-            int start = 0;
-            for (int at = 0; at <= codes.size(); at++) {
-                int kind = at > start ? dictionary.kindOf(codes, start, at, shift) : shift;
-                int counted = closed + Dictionary.doubtOfKind(kind);
-                before.set(at, counted);
-                if (at < codes.size() && !Codes.isSign(codes.at(at))) {
-                    closed = counted;
-                    shift = Codes.shiftBehind(codes.at(at), Dictionary.shiftOfKind(kind), line.unshifts);
-                    start = at + 1;
-                }
-            }
-        }
-
-        private void countBehind(Line line, Dictionary dictionary) {
-            Row codes = line.receivedRow;
-            int end = codes.size();
-            for (int at = codes.size() - 1; at >= 0; at--) {
-                if (!Codes.isSign(codes.at(at))) {
-                    end = at;
-                }
-                behindLetters.set(at, doubtfulFrom(line, dictionary, at, end, LETTERS));
-                behindFigures.set(at, doubtfulFrom(line, dictionary, at, end, FIGURES));
-            }
-        }
-
-        /** Counts from a place whose segment ends before another; at == end if no segment is there. */
-        private int doubtfulFrom(Line line, Dictionary dictionary, int at, int end, int shift) {
-            Row codes = line.receivedRow;
-            if (at == end) {
-                int next = Codes.shiftBehind(codes.at(at), shift, line.unshifts);
-                return behind(next).at(at + 1);
-            }
-            int kind = dictionary.kindOf(codes, at, end, shift);
-            return Dictionary.doubtOfKind(kind) + behind(Dictionary.shiftOfKind(kind)).at(end);
         }
     }
 
