@@ -46,6 +46,23 @@ public final class UndoTest {
         Check.due("P33 all as before", before, x::digest);
     }
 
+    private static void testUndoOfUnshifting() {
+        TelexReceiver x = new TelexReceiver();
+        Check.send(x, ". .");
+        x.unshiftOnSpace(true);
+        x.setFault(0, 1);
+        x.unshiftOnSpace(false);
+        Check.due("P33 without unshifting", ". .", () -> Check.printed(x));
+        x.undo();
+        Check.due("P33 with unshifting, and decoded anew", ". k", () -> Check.printed(x));
+        x.undo();
+        Check.due("P33 a state that was saved with unshifting", ". k", () -> Check.printed(x));
+        x.undo();
+        Check.due("P33 before unshifting", ". .", () -> Check.printed(x));
+        Check.due("P33 left", 0, x::undo);
+        Check.due("P33 nothing is printed", "", () -> Check.printed(x));
+    }
+
     private static void testWrongCharactersAfterUndo() {
         TelexReceiver x = new TelexReceiver();
         Check.send(x, "klm");
@@ -153,12 +170,31 @@ public final class UndoTest {
         Check.due("wrongCharacters()", 6, x::wrongCharacters);
         Check.due("P35 of a line", want, x::digest);
         Check.due("P35 again", want, x::digest);
+        testDigestOfGuesses();
         int saved = x.savedStates();
         Check.due("P35 saves nothing", saved, x::savedStates);
     }
 
+    private static void testDigestOfGuesses() {
+        TelexReceiver x = new TelexReceiver();
+        Check.learn(x, "we");
+        Check.learn(x, "zyxwvu");
+        x.unshiftOnSpace(true);
+        x.setFault(4, 0);
+        Check.send(x, ".\n# we 3 we");
+        // 30 11 28 29, the space is lost, 23 5 27, 30, 3 27 23 5
+        Check.due("codes", "30 11 28 29 23 5 27 30 3 27 23 5", () -> Check.receivedCodes(x));
+        long want = hash(13, 12, 0, 1, 2, 9, 4, 1, 1, 1, 0, 0, 8, -1,
+                30, 11, 28, 29, 23, 5, 27, 30, 3, 27, 23, 5,
+                '.', '\n', 'w', 'e', ' ', '3', ' ', 'w', 'e',
+                1, 5, 2, 2, 1, 1, 2, 0,
+                2, 2, 6, 0);
+        Check.due("P35 of a line with guesses", want, x::digest);
+    }
+
     public static void main(String[] args) {
         testUndoOfEachMethod();
+        testUndoOfUnshifting();
         testWrongCharactersAfterUndo();
         testBufferStays();
         testSixStates();
