@@ -83,7 +83,7 @@ public final class TelexReceiver {
         int before = received();
         line.transmit(buffer);
         buffer.clear();
-        decodeAnew();
+        printer.decode(line, dictionary);
         return received() - before;
     }
 
@@ -136,7 +136,7 @@ public final class TelexReceiver {
         history.save(line, dictionary);
         boolean previous = line.unshifts;
         line.unshifts = isOn;
-        decodeAnew();
+        printer.decode(line, dictionary);
         return previous;
     }
 
@@ -145,7 +145,7 @@ public final class TelexReceiver {
         if (word == NO_WORD) {
             throw new IllegalArgumentException("the buffer is not a word");
         }
-        boolean isNew = dictionary.find(word) == NONE;
+        boolean isNew = dictionary.wordRow.find(word) == NONE;
         if (isNew && words() >= MOST_WORDS) {
             throw new IllegalStateException("the dictionary is full");
         }
@@ -154,7 +154,7 @@ public final class TelexReceiver {
             dictionary.wordRow.add(word);
         }
         buffer.clear();
-        decodeAnew();
+        printer.decode(line, dictionary);
         return words();
     }
 
@@ -165,7 +165,7 @@ public final class TelexReceiver {
         history.save(line, dictionary);
         int length = dictionary.lengthOf(word);
         dictionary.wordRow.remove(word);
-        decodeAnew();
+        printer.decode(line, dictionary);
         return length;
     }
 
@@ -309,7 +309,7 @@ public final class TelexReceiver {
             throw new IllegalStateException("no state is saved");
         }
         history.restore(line, dictionary);
-        decodeAnew();
+        printer.decode(line, dictionary);
         return history.count;
     }
 
@@ -346,10 +346,6 @@ public final class TelexReceiver {
         return hash;
     }
 
-    private void decodeAnew() {
-        printer.decode(line, dictionary);
-    }
-
     /** A row of numbers up to a fixed capacity. Its array is made once, so that calls make none. */
     private static final class Row {
         private final int[] values;
@@ -369,7 +365,7 @@ public final class TelexReceiver {
         }
 
         int at(int index) {
-            return has(index) ? values[index] : 0;
+            return index >= 0 && index < size && index < values.length ? values[index] : 0;
         }
 
         void set(int index, int value) {
@@ -636,12 +632,9 @@ public final class TelexReceiver {
             return true;
         }
 
-        int find(int word) {
-            return wordRow.find(word);
-        }
-
+        /** The number of the word that a segment is in the letters shift; NONE if it is none. */
         int findSegment(Row codes, int start, int end) {
-            return find(wordOfCodes(codes, start, end));
+            return wordRow.find(wordOfCodes(codes, start, end));
         }
 
         /** The code of a letter of a word; 0 behind its end. */
@@ -659,20 +652,17 @@ public final class TelexReceiver {
             return length;
         }
 
-        private boolean isPlausible(Row codes, int start, int end, int shift) {
-            return shift == LETTERS ? findSegment(codes, start, end) != NONE : areDigits(codes, start, end);
-        }
-
         /** The kind, as segmentKind() tells it, of a segment that begins in a shift. */
         int kindOf(Row codes, int start, int end, int shift) {
-            if (isPlausible(codes, start, end, shift)) {
+            boolean isWord = findSegment(codes, start, end) != NONE;
+            boolean isNumber = areDigits(codes, start, end);
+            if (shift == LETTERS ? isWord : isNumber) {
                 return shift;
             }
-            int other = shift == LETTERS ? FIGURES : LETTERS;
-            if (isPlausible(codes, start, end, other)) {
-                return other + GUESSED;
+            if (isWord) {
+                return LETTERS + GUESSED;
             }
-            return shift + DOUBTFUL;
+            return isNumber ? FIGURES + GUESSED : shift + DOUBTFUL;
         }
 
         /** The shift in which a segment is printed, which is the receiver's shift behind it too. */
@@ -682,7 +672,8 @@ public final class TelexReceiver {
 
         /** 1 for a segment that is doubtful, whatever the shift; 0 for another one. */
         int doubtOf(Row codes, int start, int end) {
-            return kindOf(codes, start, end, LETTERS) >= DOUBTFUL ? 1 : 0;
+            boolean isPlausible = findSegment(codes, start, end) != NONE || areDigits(codes, start, end);
+            return isPlausible ? 0 : 1;
         }
     }
 

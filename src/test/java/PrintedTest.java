@@ -2,40 +2,6 @@
 public final class PrintedTest {
     private static final Object NO_INDEX = IndexOutOfBoundsException.class;
 
-    /** A receiver that knows some words and has got exactly these codes, whatever was sent. */
-    private static TelexReceiver got(String words, int... codes) {
-        TelexReceiver x = new TelexReceiver();
-        for (String word : words.split(" ")) {
-            if (!word.isEmpty()) {
-                Check.learn(x, word);
-            }
-        }
-        getCodes(x, codes);
-        return x;
-    }
-
-    // Each code takes one of the wire's indexes for its bits, of a code that the sender can send
-    // without a shift, and differs from it in one bit at most.
-    private static void getCodes(TelexReceiver x, int... codes) {
-        for (int code : codes) {
-            int meant = code == 0 || code >= 27 ? nearestLetter(code) : code;
-            int bit = Integer.numberOfTrailingZeros(code ^ meant);
-            x.setFault(x.sent(), code == meant ? -1 : bit + 1);
-            Check.send(x, "" + (char) ('a' + meant - 1));
-        }
-        Check.due("the codes", codes[codes.length - 1], () -> x.receivedCode(x.received() - 1));
-    }
-
-    private static int nearestLetter(int code) {
-        for (int bit = 0; bit < 5; bit++) {
-            int letter = code ^ (1 << bit);
-            if (letter >= 1 && letter <= 26) {
-                return letter;
-            }
-        }
-        throw new IllegalArgumentException("no letter is near " + code);
-    }
-
     private static void printed(String what, TelexReceiver x, String text, String kinds, int shift) {
         Check.due(what + ": printed", text, () -> Check.printed(x));
         Check.due(what + ": kinds", kinds, () -> Check.kinds(x));
@@ -43,13 +9,13 @@ public final class PrintedTest {
     }
 
     private static void testPrinted() {
-        TelexReceiver x = got("", 23, 5, 27, 30, 2, 12, 28, 31, 11);
+        TelexReceiver x = Got.receiver("", 23, 5, 27, 30, 2, 12, 28, 31, 11);
         printed("P20", x, "we 2,\nk", "4 5 4", 0);
         Check.due("P19 printedLength()", 7, x::printedLength);
         Check.due("P20 behind the last", NO_INDEX, () -> x.printed(7));
         Check.due("P20 before the first", NO_INDEX, () -> x.printed(-1));
         Check.due("P20 far off", NO_INDEX, () -> x.printed(Integer.MAX_VALUE));
-        printed("P20 a blank and calls print nothing", got("", 11, 0, 29, 12, 30, 29, 30, 31), "kl", "4 4", 0);
+        printed("P20 a blank and calls print nothing", Got.receiver("", 11, 0, 29, 12, 30, 29, 30, 31), "kl", "4 4", 0);
         TelexReceiver letters = new TelexReceiver();
         Check.send(letters, "abcdefghijklmnopqrstuvwxyz \n1234567890.,:;?!'()/-+=&%\"");
         Check.due("P20 each sign", "abcdefghijklmnopqrstuvwxyz \n1234567890.,:;?!'()/-+=&%\"",
@@ -58,7 +24,7 @@ public final class PrintedTest {
     }
 
     private static void testSegments() {
-        TelexReceiver x = got("", 11, 12, 0, 13, 31, 14, 30, 5, 12, 27, 6, 11, 28, 7, 29, 29, 8, 9, 11);
+        TelexReceiver x = Got.receiver("", 11, 12, 0, 13, 31, 14, 30, 5, 12, 27, 6, 11, 28, 7, 29, 29, 8, 9, 11);
         Check.due("P21 segments()", 7, x::segments);
         Check.due("P22 lengths", "2 1 1 2 2 1 3", () -> Check.lengths(x));
         Check.due("P23 kinds", "4 4 4 5 5 1 5", () -> Check.kinds(x));
@@ -69,7 +35,7 @@ public final class PrintedTest {
         Check.due("P24 guesses()", 0, x::guesses);
         Check.due("P25 doubtful()", 6, x::doubtful);
         Check.due("P30 plausibility()", 1.0 / 7.0, x::plausibility);
-        TelexReceiver none = got("", 27, 28, 0, 29, 30, 31);
+        TelexReceiver none = Got.receiver("", 27, 28, 0, 29, 30, 31);
         Check.due("P21 no segments", 0, none::segments);
         Check.due("P30 no segments", 1.0, none::plausibility);
         TelexReceiver together = new TelexReceiver();
@@ -87,32 +53,32 @@ public final class PrintedTest {
     }
 
     private static void testKinds() {
-        printed("P23 a word in letters", got("we", 23, 5), "we", "0", 0);
-        printed("P23 a word in figures is guessed", got("we", 30, 23, 5), "we", "2", 0);
-        printed("P23 digits in figures", got("", 30, 1, 10), "10", "1", 1);
-        printed("P23 digits in letters are guessed", got("", 1, 10), "10", "3", 1);
-        printed("P23 letters, doubtful", got("we", 23, 5, 5), "wee", "4", 0);
-        printed("P23 figures, doubtful", got("we", 30, 23), "=", "5", 1);
-        printed("P23 both, in letters", got("be", 2, 5), "be", "0", 0);
-        printed("P23 both, in figures", got("be", 30, 2, 5), "25", "1", 1);
-        printed("P23 no digit is 11", got("", 11), "k", "4", 0);
-        printed("P23 a digit and a sign", got("", 10, 11), "jk", "4", 0);
-        printed("P23 a word's beginning", got("you", 25, 15), "yo", "4", 0);
-        printed("P23 a word's end", got("you", 15, 21), "ou", "4", 0);
-        printed("P23 six letters", got("quotas", 17, 21, 15, 20, 1, 19), "quotas", "0", 0);
-        printed("P23 seven letters", got("quotas", 17, 21, 15, 20, 1, 19, 1), "quotasa", "4", 0);
-        printed("P23 thirteen letters", got("aaaaaa", 1, 1, 1, 1, 1, 1, 11, 1, 1, 1, 1, 1, 1), "aaaaaakaaaaaa", "4", 0);
+        printed("P23 a word in letters", Got.receiver("we", 23, 5), "we", "0", 0);
+        printed("P23 a word in figures is guessed", Got.receiver("we", 30, 23, 5), "we", "2", 0);
+        printed("P23 digits in figures", Got.receiver("", 30, 1, 10), "10", "1", 1);
+        printed("P23 digits in letters are guessed", Got.receiver("", 1, 10), "10", "3", 1);
+        printed("P23 letters, doubtful", Got.receiver("we", 23, 5, 5), "wee", "4", 0);
+        printed("P23 figures, doubtful", Got.receiver("we", 30, 23), "=", "5", 1);
+        printed("P23 both, in letters", Got.receiver("be", 2, 5), "be", "0", 0);
+        printed("P23 both, in figures", Got.receiver("be", 30, 2, 5), "25", "1", 1);
+        printed("P23 no digit is 11", Got.receiver("", 11), "k", "4", 0);
+        printed("P23 a digit and a sign", Got.receiver("", 10, 11), "jk", "4", 0);
+        printed("P23 a word's beginning", Got.receiver("you", 25, 15), "yo", "4", 0);
+        printed("P23 a word's end", Got.receiver("you", 15, 21), "ou", "4", 0);
+        printed("P23 six letters", Got.receiver("quotas", 17, 21, 15, 20, 1, 19), "quotas", "0", 0);
+        printed("P23 seven letters", Got.receiver("quotas", 17, 21, 15, 20, 1, 19, 1), "quotasa", "4", 0);
+        printed("P23 thirteen letters", Got.receiver("aaaaaa", 1, 1, 1, 1, 1, 1, 11, 1, 1, 1, 1, 1, 1), "aaaaaakaaaaaa", "4", 0);
     }
 
     private static void testGuesses() {
-        TelexReceiver x = got("we", 30, 23, 5, 28, 1, 28, 23, 5, 27, 11, 29);
+        TelexReceiver x = Got.receiver("we", 30, 23, 5, 28, 1, 28, 23, 5, 27, 11, 29);
         printed("P24 in turn", x, "we\n1\nwe k", "2 3 2 4", 0);
         Check.due("P24 guesses()", 3, x::guesses);
         Check.due("P25 doubtful()", 1, x::doubtful);
         Check.due("P27 a guess moves the question", 1, x::questions);
         Check.due("P26 no bell", 0, x::bells);
         Check.due("P30 plausibility()", 0.75, x::plausibility);
-        TelexReceiver bell = got("", 1, 29);
+        TelexReceiver bell = Got.receiver("", 1, 29);
         Check.due("P26 a guess moves the bell", 1, bell::bells);
         Check.due("P27 no question", 0, bell::questions);
         x.forget(0);
@@ -126,7 +92,7 @@ public final class PrintedTest {
     }
 
     private static void testBells() {
-        TelexReceiver x = got("", 29, 30, 29, 29, 27, 29, 28, 29, 31, 29, 29, 0, 29);
+        TelexReceiver x = Got.receiver("", 29, 30, 29, 29, 27, 29, 28, 29, 31, 29, 29, 0, 29);
         Check.due("P26 bells()", 4, x::bells);
         Check.due("P27 questions()", 4, x::questions);
         x.unshiftOnSpace(true);
@@ -135,19 +101,19 @@ public final class PrintedTest {
     }
 
     private static void testReceiverShift() {
-        Check.due("P28 figures", 1, got("", 30)::receiverShift);
-        Check.due("P28 letters", 0, got("", 30, 31)::receiverShift);
-        TelexReceiver x = got("", 30, 1, 27);
+        Check.due("P28 figures", 1, Got.receiver("", 30)::receiverShift);
+        Check.due("P28 letters", 0, Got.receiver("", 30, 31)::receiverShift);
+        TelexReceiver x = Got.receiver("", 30, 1, 27);
         Check.due("P28 a space", 1, x::receiverShift);
         x.unshiftOnSpace(true);
         Check.due("P28 a space that unshifts", 0, x::receiverShift);
-        TelexReceiver line = got("", 30, 11, 28);
+        TelexReceiver line = Got.receiver("", 30, 11, 28);
         line.unshiftOnSpace(true);
         Check.due("P28 a line break", 1, line::receiverShift);
     }
 
     private static void testUnshiftBeforeSegment() {
-        TelexReceiver x = got("we", 30, 11, 27, 23, 5, 27, 11);
+        TelexReceiver x = Got.receiver("we", 30, 11, 27, 23, 5, 27, 11);
         printed("P23 without unshifting", x, ". we k", "5 2 4", 0);
         x.unshiftOnSpace(true);
         printed("P23 with unshifting", x, ". we k", "5 0 4", 0);
@@ -192,11 +158,11 @@ public final class PrintedTest {
     }
 
     private static void testPlausibility() {
-        TelexReceiver x = got("we", 23, 5, 27, 11, 27, 12);
+        TelexReceiver x = Got.receiver("we", 23, 5, 27, 11, 27, 12);
         Check.due("P30 one of three", 1.0 / 3.0, x::plausibility);
         x.forget(0);
         Check.due("P30 none", 0.0, x::plausibility);
-        Check.due("P30 all", 1.0, got("we", 23, 5, 27, 1)::plausibility);
+        Check.due("P30 all", 1.0, Got.receiver("we", 23, 5, 27, 1)::plausibility);
     }
 
     public static void main(String[] args) {

@@ -35,9 +35,23 @@ final class Check {
         return telex.send();
     }
 
+    /** Sends a text that need not fit the buffer. */
+    static void sendInParts(TelexReceiver telex, String text) {
+        for (int start = 0; start < text.length(); start += 60) {
+            send(telex, text.substring(start, Math.min(start + 60, text.length())));
+        }
+    }
+
     static int learn(TelexReceiver telex, String word) {
         appendAll(telex, word);
         return telex.learn();
+    }
+
+    /** Fills a dictionary that is empty with the words "a" to "t". */
+    static void learnTwenty(TelexReceiver telex) {
+        for (char letter = 'a'; letter <= 't'; letter++) {
+            learn(telex, "" + letter);
+        }
     }
 
     static String printed(TelexReceiver telex) {
