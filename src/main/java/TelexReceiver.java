@@ -276,17 +276,19 @@ public final class TelexReceiver {
     }
 
     public int bestRepair() {
-        int best = NONE;
-        int bestChange = 0;
-        for (int number = 0; number <= received(); number++) {
-            int change = changeByCut(number);
-            if (change < bestChange) {
-                bestChange = change;
-                // Both shifts would do the same, and the code 30 has the lesser result.
-                best = 2 * number;
+        // One more shift repairs one segment at most, so none is better than the first that repairs one.
+        for (int segment = 0; segment < segments(); segment++) {
+            if (printer.kindRow.at(segment) >= DOUBTFUL) {
+                int start = printer.startRow.at(segment);
+                int end = start + printer.lengthRow.at(segment);
+                int number = dictionary.firstRepairingCut(line.receivedRow, start, end);
+                if (number != NONE) {
+                    // Both shifts would do the same, and the code 30 has the lesser result.
+                    return 2 * number;
+                }
             }
         }
-        return best;
+        return NONE;
     }
 
     // Whether a segment is doubtful does not depend on the shift, as both readings are looked at. So
@@ -634,7 +636,8 @@ public final class TelexReceiver {
 
         /** The number of the word that a segment is in the letters shift; NONE if it is none. */
         int findSegment(Row codes, int start, int end) {
-            return wordRow.find(wordOfCodes(codes, start, end));
+            int word = wordOfCodes(codes, start, end);
+            return word == NO_WORD ? NONE : wordRow.find(word);
         }
 
         /** The code of a letter of a word; 0 behind its end. */
@@ -670,16 +673,30 @@ public final class TelexReceiver {
             return kind & 1;
         }
 
+        private boolean isDoubtful(Row codes, int start, int end) {
+            return findSegment(codes, start, end) == NONE && !areDigits(codes, start, end);
+        }
+
         /** 1 for a segment that is doubtful, whatever the shift; 0 for another one. */
         int doubtOf(Row codes, int start, int end) {
-            boolean isPlausible = findSegment(codes, start, end) != NONE || areDigits(codes, start, end);
-            return isPlausible ? 0 : 1;
+            return isDoubtful(codes, start, end) ? 1 : 0;
+        }
+
+        /** The first place inside a segment where a cut leaves no doubtful part; NONE if there is none. */
+        int firstRepairingCut(Row codes, int start, int end) {
+            for (int place = start + 1; place < end; place++) {
+                if (!isDoubtful(codes, start, place) && !isDoubtful(codes, place, end)) {
+                    return place;
+                }
+            }
+            return NONE;
         }
     }
 
     /** What is printed of the received codes by the present dictionary. */
     private static final class Printer {
         private final Row printedRow = new Row(MOST_CODES);
+        private final Row startRow = new Row(MOST_CODES);
         private final Row lengthRow = new Row(MOST_CODES);
         private final Row kindRow = new Row(MOST_CODES);
         private final Row wordRow = new Row(MOST_CODES);
@@ -704,6 +721,7 @@ public final class TelexReceiver {
 
         private void reset() {
             printedRow.clear();
+            startRow.clear();
             lengthRow.clear();
             kindRow.clear();
             wordRow.clear();
@@ -719,6 +737,7 @@ public final class TelexReceiver {
             int kind = dictionary.kindOf(codes, start, end, shift);
             shift = Dictionary.shiftOfKind(kind);
             kindRow.add(kind);
+            startRow.add(start);
             lengthRow.add(end - start);
             wordRow.add(shift == LETTERS ? dictionary.findSegment(codes, start, end) : NONE);
             for (int i = start; i < end; i++) {

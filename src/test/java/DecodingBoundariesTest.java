@@ -102,6 +102,12 @@ public final class DecodingBoundariesTest {
         printed("the first 5 of 6 letters", "klmno", "4", Got.receiver("klmnop", 11, 12, 13, 14, 15));
         printed("the last 5 of 6 letters", "lmnop", "4", Got.receiver("klmnop", 12, 13, 14, 15, 16));
         printed("7 letters", "klmnopk", "4", Got.receiver("klmnop k", 11, 12, 13, 14, 15, 16, 11));
+        for (int code = 1; code <= 26; code++) {
+            TelexReceiver x = Got.receiver("klmnop", 11, 12, 13, 14, 15, 16, code);
+            Check.due("6 letters and code " + code + " behind them", 4, () -> x.segmentKind(0));
+            TelexReceiver y = Got.receiver("klmnop", code, 11, 12, 13, 14, 15, 16);
+            Check.due("6 letters and code " + code + " before them", 4, () -> y.segmentKind(0));
+        }
         printed("the last letter differs", "klmnoq", "4", Got.receiver("klmnop", 11, 12, 13, 14, 15, 17));
         printed("the first letter differs", "llmnop", "4", Got.receiver("klmnop", 12, 12, 13, 14, 15, 16));
         printed("the order differs", "lk", "4", Got.receiver("kl", 12, 11));
@@ -124,6 +130,13 @@ public final class DecodingBoundariesTest {
         Check.sendInParts(x, "7".repeat(199));
         Check.due("199 digits", 1, () -> x.segmentKind(0));
         Check.due("one segment of 199", 199, () -> x.segmentLength(0));
+        TelexReceiver y = new TelexReceiver();
+        Check.sendInParts(y, "7".repeat(198) + ".");
+        Check.due("198 digits and a sign", 5, () -> y.segmentKind(0));
+        for (int code = 1; code <= 26; code++) {
+            TelexReceiver alone = Got.receiver("", 30, code);
+            Check.due("code " + code + " alone", code <= 10 ? 1 : 5, () -> alone.segmentKind(0));
+        }
     }
 
     // "If the reading in the shift of the receiver is plausible, this reading is printed."
@@ -185,6 +198,20 @@ public final class DecodingBoundariesTest {
         printed("the code undone", ". =", "5 5", x);
     }
 
+    // The same: what is counted is counted anew, not on top of what was counted before.
+    private static void testCountedAnew() {
+        TelexReceiver x = Got.receiver("", 29, 1, 29, 28, 11);
+        for (int i = 0; i < 3; i++) {
+            x.unshiftOnSpace(true);
+            Check.send(x, "\n");
+            Check.due("questions()", 1, x::questions);
+            Check.due("bells()", 1, x::bells);
+            Check.due("guesses()", 1, x::guesses);
+            Check.due("doubtful()", 1, x::doubtful);
+            Check.due("segments()", 2, x::segments);
+        }
+    }
+
     public static void main(String[] args) {
         testBeginsWithLetters();
         testUnshiftsAtEachSpace();
@@ -198,6 +225,7 @@ public final class DecodingBoundariesTest {
         testGuesses();
         testDoubtful();
         testDecodedAnew();
+        testCountedAnew();
         Check.finish();
     }
 }

@@ -210,6 +210,9 @@ public final class PrintAndForecastBoundariesTest {
         forecast("of one sign", "11", Got.receiver("", 11));
         forecast("of one word", "00", Got.receiver("k", 11));
         forecast("of two words in one segment", "1212021", Got.receiver("kl klmn mn", 11, 12, 13, 14, 11, 12));
+        forecast("of a word behind a code that is no sign", "0020", Got.receiver("kl", 27, 11, 12));
+        forecast("of a word before a code that is no sign", "0200", Got.receiver("kl", 11, 12, 27));
+        forecast("of a word between codes that are no signs", "00200", Got.receiver("kl", 0, 11, 12, 0));
         forecast("of codes that are no signs", "0000000", Got.receiver("", 0, 27, 28, 29, 30, 31));
         // A shift next to the space cuts nothing.
         forecast("of a word and a doubtful segment", "131121", Got.receiver("to", 20, 15, 27, 11, 12));
@@ -251,6 +254,8 @@ public final class PrintAndForecastBoundariesTest {
         Check.due("P32 of nothing", -1, new TelexReceiver()::bestRepair);
         Check.due("P32 without segments", -1, Got.receiver("", 27, 29)::bestRepair);
         Check.due("P32 nothing is doubtful", -1, Got.receiver("kl k l", 11, 12)::bestRepair);
+        Check.due("P32 nothing but a guess to letters", -1, Got.receiver("kl k l", 30, 11, 12)::bestRepair);
+        Check.due("P32 nothing but a guess to figures", -1, Got.receiver("", 1, 2)::bestRepair);
         Check.due("P32 one sign cannot be cut", -1, Got.receiver("", 11)::bestRepair);
         Check.due("P32 a cut makes it no better and no worse", -1, Got.receiver("k", 11, 12)::bestRepair);
         Check.due("P32 a cut makes it worse", -1, Got.receiver("", 11, 12)::bestRepair);

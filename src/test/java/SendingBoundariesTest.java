@@ -186,6 +186,28 @@ public final class SendingBoundariesTest {
         Check.due("the shift is letters", 0, on::senderShift);
     }
 
+    // The same: of a space that is sent, whatever the wire makes of it, and of nothing else.
+    private static void testSenderUnshiftsByWhatIsSent() {
+        TelexReceiver lost = new TelexReceiver();
+        lost.unshiftOnSpace(true);
+        lost.setFault(2, 0);
+        Check.send(lost, "1 ");
+        Check.due("a lost space: the sender", 0, lost::senderShift);
+        Check.due("a lost space: the receiver", 1, lost::receiverShift);
+        TelexReceiver changed = new TelexReceiver();
+        changed.unshiftOnSpace(true);
+        changed.setFault(2, 2);
+        Check.send(changed, "1 ");
+        Check.due("a changed space: the sender", 0, changed::senderShift);
+        Check.due("a changed space: the receiver", 1, changed::receiverShift);
+        TelexReceiver made = new TelexReceiver();
+        made.unshiftOnSpace(true);
+        made.setFault(1, 1);
+        Check.send(made, "\"");
+        Check.due("a space that the wire made: the sender", 1, made::senderShift);
+        Check.due("a space that the wire made: the receiver", 0, made::receiverShift);
+    }
+
     // "The codes that are sent are counted from 0 on; this number is the index of a code."
     private static void testIndexesFrom0() {
         TelexReceiver x = new TelexReceiver();
@@ -303,6 +325,7 @@ public final class SendingBoundariesTest {
         testShiftBeforeACharacter();
         testSenderShift();
         testSenderUnshifts();
+        testSenderUnshiftsByWhatIsSent();
         testIndexesFrom0();
         test200CodesInAll();
         testFaultsAtAllIndexes();

@@ -39,6 +39,46 @@ public final class UndoBoundariesTest {
         Check.due("forget: kinds", "0", () -> Check.kinds(x));
     }
 
+    private static void testFullPartsComeBack() {
+        TelexReceiver x = new TelexReceiver();
+        Check.learnTwenty(x);
+        x.forget(0);
+        x.undo();
+        Check.due("20 words: words()", 20, x::words);
+        Check.due("20 words: the first", (int) 'a', () -> x.wordLetter(0, 0));
+        Check.due("20 words: the last", (int) 't', () -> x.wordLetter(19, 0));
+        TelexReceiver line = new TelexReceiver();
+        Check.sendInParts(line, "kl".repeat(100));
+        for (int index = 0; index < 200; index += 199) {
+            line.setFault(index, 5);
+        }
+        long before = line.digest();
+        line.setFault(199, 3);
+        line.setFault(0, 2);
+        line.undo();
+        line.undo();
+        Check.due("200 codes: digest()", before, line::digest);
+        Check.due("200 codes: wrongCharacters()", 0, line::wrongCharacters);
+        Check.due("200 codes: the last that was sent", 12, () -> line.sentCode(199));
+        Check.due("200 codes: the fault of the last", 5, () -> line.setFault(199, -1));
+        Check.due("200 codes: the fault of the first", 5, () -> line.setFault(0, -1));
+    }
+
+    private static void testAPartOfTheLineComesBack() {
+        TelexReceiver x = new TelexReceiver();
+        x.setFault(1, 0);
+        Check.send(x, "klm");
+        long before = x.digest();
+        Check.send(x, "..");
+        x.undo();
+        Check.due("3 codes: digest()", before, x::digest);
+        Check.due("3 codes: wrongCharacters()", 2, x::wrongCharacters);
+        Check.send(x, "n");
+        Check.due("3 codes and one more", "11 12 13 14", () -> Check.sentCodes(x));
+        Check.due("3 codes and one more: received", "11 13 14", () -> Check.receivedCodes(x));
+        Check.due("3 codes and one more: wrongCharacters()", 3, x::wrongCharacters);
+    }
+
     private static void testTheBufferIsNoPartOfTheState() {
         TelexReceiver x = new TelexReceiver();
         Check.send(x, "k");
@@ -182,8 +222,9 @@ public final class UndoBoundariesTest {
         x.send();
         Check.due(what + ": what is sent next", Check.sentCodes(same), () -> Check.sentCodes(x));
         Check.due(what + ": digest() then", same.digest(), x::digest);
-        while (same.savedStates() > 0) {
-            Check.due(what + ": undo()", same.undo(), x::undo);
+        for (int left = same.savedStates() - 1; left >= 0; left--) {
+            same.undo();
+            Check.due(what + ": undo()", left, x::undo);
             Check.due(what + ": digest() undone", same.digest(), x::digest);
         }
     }
@@ -334,7 +375,9 @@ public final class UndoBoundariesTest {
     }
 
     // Promise 35: "what sent(), received(), senderShift(), faults(), words(), printedLength(), segments(),
-    // guesses(), doubtful(), bells(), questions(), receiverShift(), wrongCharacters() and bestRepair() return"
+    // guesses(), doubtful(), bells(), questions(), receiverShift(), wrongCharacters() and bestRepair() return;
+    // each code that was received; each character that is printed; for each segment its length and its kind;
+    // for each word the number of its letters, and what uses() returns."
     private static void testDigestTellsEachValue() {
         TelexReceiver x = Got.receiver("we be", 29, 29, 29, 30, 29, 29, 31, 1, 27, 11, 0, 23, 5, 23, 5, 31, 2, 5);
         Check.send(x, "@#");
@@ -353,6 +396,8 @@ public final class UndoBoundariesTest {
 
     public static void main(String[] args) {
         testEverythingIsUndone();
+        testFullPartsComeBack();
+        testAPartOfTheLineComesBack();
         testTheBufferIsNoPartOfTheState();
         testSavedEvenIfNothingChanges();
         testSavedByNoOtherCall();

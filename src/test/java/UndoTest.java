@@ -9,8 +9,8 @@ public final class UndoTest {
         Check.learn(x, "you");
         x.setFault(1, 3);
         Check.send(x, "we 1");
-        while (x.savedStates() > 0) {
-            Check.due("P33 left", x.savedStates() - 1, x::undo);
+        for (int left = 3; left >= 0; left--) {
+            Check.due("P33 left", left, x::undo);
         }
         Check.due("P33 all undone", new TelexReceiver().digest(), x::digest);
         Check.learn(x, "we");
